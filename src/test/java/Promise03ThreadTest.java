@@ -1,53 +1,59 @@
 public final class Promise03ThreadTest {
-    private static final Due due = new Due();
+    private static final Due due = new Due("Promise 3: thread");
 
     public static void main(String[] args) {
-        kinds();
-        sharedThings();
+        holdsWhatIsHeld();
+        holdsNothing();
+        fromItself();
         refused();
         due.end();
     }
 
-    private static void kinds() {
-        SpliceBench x = Benches.ofAllKinds();
-        for (int kind = 5; kind >= 0; kind--) {
-            due.is("thread answers the kind", x.thread(9, kind), kind);
-            due.is("and holds it", x.held(9, 0), kind);
-            due.is("the same", x.same(9, -1, kind, -1), kind == 0 ? 0 : 1);
+    private static void holdsWhatIsHeld() {
+        due.sentence("Spindle s holds what spindle from holds: its KIND.");
+        SpliceBench x = Benches.filledOfAllKinds();
+        for (int kind = 5; kind >= 1; kind--) {
+            due.is("thread(9, " + kind + ")", x.thread(9, kind), kind);
+            due.is("its kind", x.held(9, 0), kind);
+            due.is("it is the same", x.same(9, -1, kind, -1), 1);
+            due.is("its number", x.number(9, 0), kind == 1 ? 77 : 2 * kind);
         }
-        due.is("to itself", x.thread(4, 4), 4);
-        due.is("to itself: still there", x.held(4, 1), 5);
         due.is("nothing is made", x.count(6), 4);
+        x.thread(0, 9);
+        x.hold(9, 2, 1);
+        due.is("through another spindle", x.same(0, -1, 1, -1), 1);
     }
 
-    private static void sharedThings() {
-        SpliceBench x = Benches.with(1);
-        x.thread(1, 0);
-        x.put(1, 0, 12);
-        due.is("a label's number is seen by the other", x.number(0, 0), 12);
-
-        for (int kind = 2; kind <= 5; kind++) {
-            x = Benches.with(kind, 2, 4, 6);
-            x.thread(1, 0);
-            x.put(1, 1, 8);
-            due.row("put is seen by the other", x, 0, 2, 8, 6);
-            x.open(0, 0, 1);
-            due.row("a gap is seen by the other", x, 1, 0, 2, 8);
-            x.back();
-            due.row("back is seen by the one", x, 0, 2, 8, 6);
-            due.row("back is seen by the other", x, 1, 2, 8, 6);
-            x.move(0, 0, 1, 1, 2);
-            due.row("a motion between both is one within a thing", x, 0, 2, 2, 8);
+    private static void holdsNothing() {
+        due.sentence("holds what spindle from holds");
+        SpliceBench x = Benches.filledOfAllKinds();
+        for (int s = 0; s <= 5; s++) {
+            due.is("thread(" + s + ", 9)", x.thread(s, 9), 0);
+            due.is("its kind", x.held(s, 0), 0);
         }
+        due.is("what was taken off is still covered", x.back(), 1);
+    }
+
+    private static void fromItself() {
+        due.sentence("Spindle s holds what spindle from holds");
+        SpliceBench x = Benches.filledOfAllKinds();
+        String before = Benches.look(x);
+        for (int s = 0; s <= 5; s++) {
+            due.is("thread(" + s + ", " + s + ")", x.thread(s, s), s);
+        }
+        due.unchanged("from itself", x, before);
     }
 
     private static void refused() {
-        SpliceBench x = Benches.with(2, 4, 5);
+        due.sentence("-9.");
+        SpliceBench x = Benches.filledOfAllKinds();
+        String before = Benches.look(x);
         for (int s : Benches.NO_SPINDLES) {
-            due.is("thread to no spindle", x.thread(s, 0), -9);
-            due.is("thread from no spindle", x.thread(0, s), -9);
-            due.is("thread among no spindles", x.thread(s, s), -9);
+            due.is("thread(" + s + ", 4)", x.thread(s, 4), -9);
+            due.is("thread(4, " + s + ")", x.thread(4, s), -9);
+            due.is("thread(" + s + ", " + s + ")", x.thread(s, s), -9);
+            due.is("thread(" + s + ", 0)", x.thread(s, 0), -9);
         }
-        due.row("nothing changed", x, 0, 4, 5);
+        due.unchanged("refused", x, before);
     }
 }

@@ -9,7 +9,7 @@ public final class RandomRunsTest {
     private static final long[] WIDE = {Long.MIN_VALUE, Long.MAX_VALUE, 1L << 31, 1L << 32,
         -(1L << 31) - 1, 0xFFFFFFFFL, -1, 9000000001L};
 
-    private final Due due = new Due();
+    private final Due due = new Due("Runs of 512 calls");
     private Random random;
     private SpliceBench x;
     private ModelBench y;
