@@ -109,11 +109,10 @@ public final class Promise02HoldTest {
     private static void notYetFull() {
         due.sentence("when 600 STRIPS and RACKS were made");
         SpliceBench x = new SpliceBench();
-        for (int k = 0; k < 510; k++) {
-            due.is("one of 510", x.hold(k % 10, 2 + k % 4, 80), 1);
+        for (int k = 0; k < 511; k++) {
+            due.is("one of 511", x.hold(k % 10, 2 + k % 4, 80), 1);
         }
-        due.is("510 are made", x.count(6), 510);
-        due.is("the last one", x.held(9, 1), 80);
+        due.is("511 are made", x.count(6), 511);
     }
 
     /** In more than 512 calls, where the document leaves the answers free: the class's own. */

@@ -3,6 +3,7 @@ public final class Promise05MoveTest {
 
     public static void main(String[] args) {
         moves();
+        shortAndLong();
         answersN();
         blankPlaces();
         failures();
@@ -29,6 +30,23 @@ public final class Promise05MoveTest {
         Benches.fill(x, 1, 3, 0, 0);
         x.move(0, 0, 1, 0, 2);
         due.row("sound keeps 64 bits", x, 1, Long.MIN_VALUE, Long.MAX_VALUE);
+    }
+
+    private static void shortAndLong() {
+        due.sentence("from place i on of what spindle from holds to place j on of what spindle to "
+            + "holds");
+        for (int kind = 2; kind <= 5; kind++) {
+            SpliceBench x = Benches.with(kind, 2, 4);
+            x.hold(1, kind, 80);
+            due.is("to the last of 80 places", x.move(0, 0, 1, 78, 2), 2);
+            due.is("place 77", x.number(1, 77), 0);
+            due.is("place 78", x.number(1, 78), 2);
+            due.is("place 79", x.number(1, 79), 4);
+            x.hold(2, kind, 1);
+            due.is("from the last of 80 places", x.move(1, 79, 2, 0, 1), 1);
+            due.row("from the last of 80 places", x, 2, 4);
+            due.is("to a place that there is not", x.move(1, 79, 2, 1, 1), -3);
+        }
     }
 
     private static void answersN() {
